@@ -134,7 +134,7 @@ public final class StudentSwaps {
                 || !isIn(credits, 0, MOST_CREDITS) || !isIn(subject, 0, MOST_SUBJECT)) {
             return NONE;
         }
-        return agreement.isMetBy(grade, level, credits, subject) ? 1 : 0;
+        return agreement.subjectsThatMeet(grade, level, credits) >> subject & 1;
     }
 
     public int terms(int x, int y, int what) {
@@ -425,7 +425,7 @@ public final class StudentSwaps {
         for (int x = 0; x < agreements.size(); x++) {
             Agreement agreement = agreements.get(x);
             if (agreement.isInForce(yearNow) && agreement.isBetween(one.home, h)
-                    && agreement.isMetBy(one.grade, level, one.credits, one.subject)) {
+                    && (agreement.subjectsThatMeet(one.grade, level, one.credits) >> one.subject & 1) == 1) {
                 return x;
             }
         }
@@ -1007,10 +1007,6 @@ public final class StudentSwaps {
             return isBetween(other.first, other.second) && firstYear <= other.lastYear && other.firstYear <= lastYear;
         }
 
-        boolean isMetBy(int grade, int level, int credits, int subject) {
-            return (subjectsThatMeet(grade, level, credits) >> subject & 1) == 1;
-        }
-
         int subjectsThatMeet(int grade, int level, int credits) {
             int top = 0;
             for (int i = 0; i < codes.length; i++) {
@@ -1070,7 +1066,7 @@ public final class StudentSwaps {
         }
 
         private static int comparedSubjects(int sign, int value) {
-            int first = Math.min(value, MOST_SUBJECT + 1);
+            int first = value > MOST_SUBJECT ? MOST_SUBJECT + 1 : value;
             int below = (1 << first) - 1;
             int just = 1 << first & ALL_SUBJECTS;
             if (sign == 0) {
@@ -1124,12 +1120,13 @@ public final class StudentSwaps {
         private boolean findsAtGrade(Agreement one, Agreement other, boolean meetsOther, int grade) {
             int wrong = meetsOther ? 0 : Agreement.ALL_SUBJECTS;
             for (int level = 0; level <= MOST_LEVEL; level++) {
-                for (int credits = 0; edges[1][level] == 1 && credits <= MOST_CREDITS; credits++) {
-                    if (edges[2][credits] == 1) {
-                        int met = one.subjectsThatMeet(grade, level, credits);
-                        if (met != 0 && (met & (wrong ^ other.subjectsThatMeet(grade, level, credits))) != 0) {
-                            return true;
-                        }
+                if (edges[1][level] == 0) {
+                    continue;
+                }
+                for (int credits = 0; credits <= MOST_CREDITS; credits++) {
+                    int met = edges[2][credits] == 0 ? 0 : one.subjectsThatMeet(grade, level, credits);
+                    if (met != 0 && (met & (wrong ^ other.subjectsThatMeet(grade, level, credits))) != 0) {
+                        return true;
                     }
                 }
             }
