@@ -36,7 +36,7 @@ public final class StudentSwaps {
     private int yearNow = 0;
     private final int[] visaLeast = new int[LANDS];
     private final int[] visaMost = new int[LANDS];
-    private final int[] guestsOn = new int[DAYS + 1];
+    private final int[] guestsOn = new int[DAYS];
     private final Scales scales = new Scales();
     private final Tape tape = new Tape();
     private final TextReader reader = new TextReader();
@@ -45,7 +45,7 @@ public final class StudentSwaps {
     private final List<School> schools = new ArrayList<>();
     private final List<Agreement> agreements = new ArrayList<>();
     private final List<Student> students = new ArrayList<>();
-    private final Plan plan = new Plan(agreements, schools);
+    private final Plan plan = new Plan();
 
     public StudentSwaps() {
         Arrays.fill(visaLeast, 10);
@@ -181,7 +181,7 @@ public final class StudentSwaps {
 
     public int may(int s, int h) {
         Student one = studentAt(s);
-        return one == null ? NONE : wayTo(one, h);
+        return one == null ? NONE : agreementTo(one, h);
     }
 
     public int round() {
@@ -416,7 +416,7 @@ public final class StudentSwaps {
         return s >= 0 && s < students.size() ? students.get(s) : null;
     }
 
-    private int wayTo(Student one, int h) {
+    private int agreementTo(Student one, int h) {
         School school = schoolAt(h);
         if (school == null) {
             return NONE;
@@ -432,16 +432,31 @@ public final class StudentSwaps {
         return NONE;
     }
 
-    /** Those who may be moved (the first, by numbers) go into the plan, all others into its tally. */
+    /** Those who may be moved (the first, by numbers) go into the plan; all others stay as they are. */
     private void preparePlan(int most, boolean isMending) {
-        plan.clear(yearNow);
+        plan.clear();
+        setBounds();
         for (int s = 0; s < students.size(); s++) {
             Student one = students.get(s);
             boolean moves = one.state == WAITING || (isMending && one.state == PLACED);
             if (moves && plan.size < most) {
                 addToPlan(s, one, isMending);
-            } else if (one.state == PLACED || one.state == DONE) {
-                plan.addFixed(one);
+            } else if (one.state == PLACED) {
+                plan.bounds.addGuests(one.by, one.host(), wayOf(one.home, one.by), 1);
+            } else if (one.state == DONE) {
+                plan.bounds.addToBalance(one.by, wayOf(one.home, one.by), 1);
+            }
+        }
+    }
+
+    private void setBounds() {
+        for (int h = 0; h < schools.size(); h++) {
+            plan.bounds.setBeds(h, schools.get(h).beds);
+        }
+        for (int x = 0; x < agreements.size(); x++) {
+            Agreement agreement = agreements.get(x);
+            if (agreement.isInForce(yearNow)) {
+                plan.bounds.setAgreement(x, agreement.number, agreement.balance);
             }
         }
     }
@@ -452,12 +467,18 @@ public final class StudentSwaps {
         plan.addStudent(s);
         for (int w = 0; w < one.wishes; w++) {
             int h = one.wishAt(w);
-            int x = wayTo(one, h);
+            int x = agreementTo(one, h);
             if (x != NONE) {
-                plan.addOption(w, h, x, h == now ? 0 : penalty);
+                plan.addOption(w, h, x, wayOf(one.home, x), h == now ? 0 : penalty);
             }
         }
         plan.addNothing(now == NONE ? 0 : penalty);
+    }
+
+    /** What one of this HOME adds to the BALANCE of AGREEMENT x. */
+    private int wayOf(int home, int x) {
+        Agreement agreement = agreementAt(x);
+        return agreement != null && agreement.first == home ? 1 : -1;
     }
 
     private int carryOutPlan() {
@@ -478,15 +499,11 @@ public final class StudentSwaps {
     }
 
     private int balanceOf(int x) {
-        Agreement agreement = agreementAt(x);
-        if (agreement == null) {
-            return 0;
-        }
         int sum = 0;
-        for (int s = 0; s < students.size(); s++) {
+        for (int s = 0; x >= 0 && s < students.size(); s++) {
             Student one = students.get(s);
             if (one.by == x) {
-                sum += one.home == agreement.first ? 1 : -1;
+                sum += wayOf(one.home, x);
             }
         }
         return sum;
@@ -1257,39 +1274,93 @@ public final class StudentSwaps {
         }
     }
 
-    /** How many go by each AGREEMENT and to each SCHOOL. */
-    private static final class Tally {
+    /** How many go by each AGREEMENT and to each SCHOOL, and how many can. */
+    private static final class Bounds {
+        /** More than any run can need: an AGREEMENT that is not in force binds nobody. */
+        private static final int FREE = 1000;
+
+        private final int[] mostGoing = new int[MOST_AGREEMENTS];
+        private final int[] mostBalance = new int[MOST_AGREEMENTS];
+        private final int[] mostGuests = new int[MOST_SCHOOLS];
         /** Those of the first SCHOOL, and of the second one, who go this YEAR. */
-        final int[] goOut = new int[MOST_AGREEMENTS];
-        final int[] goBack = new int[MOST_AGREEMENTS];
-        final int[] balances = new int[MOST_AGREEMENTS];
-        final int[] guests = new int[MOST_SCHOOLS];
+        private final int[] goOut = new int[MOST_AGREEMENTS];
+        private final int[] goBack = new int[MOST_AGREEMENTS];
+        private final int[] balances = new int[MOST_AGREEMENTS];
+        private final int[] guests = new int[MOST_SCHOOLS];
 
         void clear() {
+            Arrays.fill(mostGoing, FREE);
+            Arrays.fill(mostBalance, FREE);
+            Arrays.fill(mostGuests, FREE);
             Arrays.fill(goOut, 0);
             Arrays.fill(goBack, 0);
             Arrays.fill(balances, 0);
             Arrays.fill(guests, 0);
         }
 
-        /** n more (or fewer, below 0) go to SCHOOL h by AGREEMENT x. */
-        void addGuests(int x, int h, boolean isOut, int n) {
-            if (!isIn(x, 0, MOST_AGREEMENTS - 1) || !isIn(h, 0, MOST_SCHOOLS - 1)) {
+        void setBeds(int h, int beds) {
+            if (h >= 0 && h < MOST_SCHOOLS) {
+                mostGuests[h] = beds;
+            }
+        }
+
+        void setAgreement(int x, int number, int balance) {
+            if (x >= 0 && x < MOST_AGREEMENTS) {
+                mostGoing[x] = number;
+                mostBalance[x] = balance;
+            }
+        }
+
+        /** n more (or fewer, below 0) go to SCHOOL h by AGREEMENT x; way: 1 from its first SCHOOL, else -1. */
+        void addGuests(int x, int h, int way, int n) {
+            if (x < 0 || x >= MOST_AGREEMENTS || h < 0 || h >= MOST_SCHOOLS) {
                 return;
             }
             guests[h] += n;
-            if (isOut) {
+            if (way > 0) {
                 goOut[x] += n;
             } else {
                 goBack[x] += n;
             }
-            addToBalance(x, isOut, n);
+            balances[x] += way * n;
         }
 
-        void addToBalance(int x, boolean isOut, int n) {
-            if (isIn(x, 0, MOST_AGREEMENTS - 1)) {
-                balances[x] += isOut ? n : -n;
+        void addToBalance(int x, int way, int n) {
+            if (x >= 0 && x < MOST_AGREEMENTS) {
+                balances[x] += way * n;
             }
+        }
+
+        boolean hasRoom(int x, int h, int way) {
+            if (x < 0 || x >= MOST_AGREEMENTS || h < 0 || h >= MOST_SCHOOLS) {
+                return false;
+            }
+            int going = way > 0 ? goOut[x] : goBack[x];
+            return going < mostGoing[x] && guests[h] < mostGuests[h];
+        }
+
+        boolean areNumbersKept() {
+            for (int h = 0; h < MOST_SCHOOLS; h++) {
+                if (guests[h] > mostGuests[h]) {
+                    return false;
+                }
+            }
+            for (int x = 0; x < MOST_AGREEMENTS; x++) {
+                if (goOut[x] > mostGoing[x] || goBack[x] > mostGoing[x]) {
+                    return false;
+                }
+            }
+            return true;
+        }
+
+        /** Whether so many who could still go out and back could bring each BALANCE within its bound. */
+        boolean canBalance(int[] outLeft, int[] backLeft) {
+            for (int x = 0; x < MOST_AGREEMENTS && x < outLeft.length && x < backLeft.length; x++) {
+                if (balances[x] - backLeft[x] > mostBalance[x] || balances[x] + outLeft[x] < -mostBalance[x]) {
+                    return false;
+                }
+            }
+            return true;
         }
     }
 
@@ -1304,18 +1375,16 @@ public final class StudentSwaps {
 
         private static final int OPTIONS = Student.MOST_WISHES + 1;
         private static final int UNFOUND = -1000000;
-        /** What a WISH is worth, so that more of a better one outweigh seven of a worse one. */
+        /** What a WISH is worth, so that one more of a better kind outweighs seven of worse ones. */
         private static final int[] WORTH = {512, 64, 8, 1};
 
-        private final List<Agreement> agreements;
-        private final List<School> schools;
-        private final Tally tally = new Tally();
-        private int year = 0;
+        final Bounds bounds = new Bounds();
         int size = 0;
         private final int[] who = new int[SEVEN];
         private final int[] options = new int[SEVEN];
         private final int[][] wishes = new int[SEVEN][OPTIONS];
         private final int[][] hosts = new int[SEVEN][OPTIONS];
+        private final int[][] agreements = new int[SEVEN][OPTIONS];
         private final int[][] ways = new int[SEVEN][OPTIONS];
         private final int[][] worths = new int[SEVEN][OPTIONS];
         /** What those from one on can be worth, and do for each BALANCE, at most. */
@@ -1326,28 +1395,9 @@ public final class StudentSwaps {
         private final int[] bestRow = new int[SEVEN];
         private int best = UNFOUND;
 
-        Plan(List<Agreement> agreements, List<School> schools) {
-            this.agreements = agreements;
-            this.schools = schools;
-        }
-
-        void clear(int yearNow) {
-            year = yearNow;
+        void clear() {
             size = 0;
-            tally.clear();
-        }
-
-        /** One who is PLACED and stays, or is DONE. */
-        void addFixed(Student one) {
-            if (one.by < 0 || one.by >= agreements.size()) {
-                return;
-            }
-            boolean isOut = agreements.get(one.by).first == one.home;
-            if (one.state == PLACED) {
-                tally.addGuests(one.by, one.host(), isOut, 1);
-            } else {
-                tally.addToBalance(one.by, isOut, 1);
-            }
+            bounds.clear();
         }
 
         void addStudent(int s) {
@@ -1359,17 +1409,17 @@ public final class StudentSwaps {
         }
 
         /** The last student that was added can go to SCHOOL h, WISH w, by AGREEMENT x. */
-        void addOption(int w, int h, int x, int penalty) {
+        void addOption(int w, int h, int x, int way, int penalty) {
             if (w >= 0 && w < WORTH.length) {
-                putOption(w, h, x, WORTH[w] - penalty);
+                putOption(w, h, x, way, WORTH[w] - penalty);
             }
         }
 
         void addNothing(int penalty) {
-            putOption(NONE, NONE, NONE, -penalty);
+            putOption(NONE, NONE, NONE, 0, -penalty);
         }
 
-        private void putOption(int w, int h, int x, int worth) {
+        private void putOption(int w, int h, int x, int way, int worth) {
             int i = size - 1;
             if (i < 0 || i >= SEVEN || options[i] < 0 || options[i] >= OPTIONS) {
                 return;
@@ -1377,7 +1427,8 @@ public final class StudentSwaps {
             int o = options[i];
             wishes[i][o] = w;
             hosts[i][o] = h;
-            ways[i][o] = x;
+            agreements[i][o] = x;
+            ways[i][o] = way;
             worths[i][o] = worth;
             options[i]++;
         }
@@ -1385,7 +1436,7 @@ public final class StudentSwaps {
         boolean isFound() {
             best = UNFOUND;
             measureLeft();
-            if (areNumbersKept()) {
+            if (bounds.areNumbersKept()) {
                 search(0, 0);
             }
             return best != UNFOUND;
@@ -1400,7 +1451,7 @@ public final class StudentSwaps {
         }
 
         int agreementOf(int i) {
-            return isChoice(i) ? ways[i][bestRow[i]] : NONE;
+            return isChoice(i) ? agreements[i][bestRow[i]] : NONE;
         }
 
         private boolean isChoice(int i) {
@@ -1408,7 +1459,7 @@ public final class StudentSwaps {
         }
 
         private void measureLeft() {
-            int last = Math.min(size, SEVEN);
+            int last = Math.max(0, Math.min(size, SEVEN));
             worthLeft[last] = 0;
             Arrays.fill(outLeft[last], 0);
             Arrays.fill(backLeft[last], 0);
@@ -1418,58 +1469,27 @@ public final class StudentSwaps {
                 int most = UNFOUND;
                 for (int o = 0; o < options[i] && o < OPTIONS; o++) {
                     most = Math.max(most, worths[i][o]);
-                    addLeft(i, ways[i][o], hosts[i][o]);
+                    addLeft(i, agreements[i][o], ways[i][o]);
                 }
                 worthLeft[i] = worthLeft[i + 1] + most;
             }
         }
 
-        private void addLeft(int i, int x, int h) {
-            if (i < 0 || i > SEVEN || !isIn(x, 0, MOST_AGREEMENTS - 1)) {
+        private void addLeft(int i, int x, int way) {
+            if (i < 0 || i > SEVEN || x < 0 || x >= MOST_AGREEMENTS) {
                 return;
             }
-            if (isOut(x, h)) {
+            if (way > 0) {
                 outLeft[i][x]++;
             } else {
                 backLeft[i][x]++;
             }
         }
 
-        /** Whether who goes to SCHOOL h by AGREEMENT x is of its first SCHOOL. */
-        private boolean isOut(int x, int h) {
-            return x >= 0 && x < agreements.size() && agreements.get(x).second == h;
-        }
-
-        private boolean areNumbersKept() {
-            for (int h = 0; h < schools.size() && h < MOST_SCHOOLS; h++) {
-                if (tally.guests[h] > schools.get(h).beds) {
-                    return false;
-                }
-            }
-            for (int x = 0; x < agreements.size() && x < MOST_AGREEMENTS; x++) {
-                Agreement agreement = agreements.get(x);
-                if (agreement.isInForce(year) && Math.max(tally.goOut[x], tally.goBack[x]) > agreement.number) {
-                    return false;
-                }
-            }
-            return true;
-        }
-
-        /** Whether those from i on could still bring each BALANCE within its bound. */
-        private boolean canBalance(int i) {
-            for (int x = 0; x < agreements.size() && x < MOST_AGREEMENTS; x++) {
-                Agreement agreement = agreements.get(x);
-                int balance = tally.balances[x];
-                if (agreement.isInForce(year) && (balance - backLeft[i][x] > agreement.balance
-                        || balance + outLeft[i][x] < -agreement.balance)) {
-                    return false;
-                }
-            }
-            return true;
-        }
-
+        /** i: how many of the row are chosen, with what these are worth together. */
         private void search(int i, int worth) {
-            if (i < 0 || i > size || i > SEVEN || worth + worthLeft[i] <= best || !canBalance(i)) {
+            if (i < 0 || i > size || i > SEVEN || worth + worthLeft[i] <= best
+                    || !bounds.canBalance(outLeft[i], backLeft[i])) {
                 return;
             }
             if (i == size || i == SEVEN) {
@@ -1478,25 +1498,16 @@ public final class StudentSwaps {
                 return;
             }
             for (int o = 0; o < options[i] && o < OPTIONS; o++) {
-                int x = ways[i][o];
+                int x = agreements[i][o];
                 int h = hosts[i][o];
-                boolean isOut = isOut(x, h);
-                if (x == NONE || fits(x, h, isOut)) {
+                int way = ways[i][o];
+                if (x == NONE || bounds.hasRoom(x, h, way)) {
                     row[i] = o;
-                    tally.addGuests(x, h, isOut, 1);
+                    bounds.addGuests(x, h, way, 1);
                     search(i + 1, worth + worths[i][o]);
-                    tally.addGuests(x, h, isOut, -1);
+                    bounds.addGuests(x, h, way, -1);
                 }
             }
-        }
-
-        private boolean fits(int x, int h, boolean isOut) {
-            if (x < 0 || x >= agreements.size() || x >= MOST_AGREEMENTS
-                    || h < 0 || h >= schools.size() || h >= MOST_SCHOOLS) {
-                return false;
-            }
-            int going = isOut ? tally.goOut[x] : tally.goBack[x];
-            return going < agreements.get(x).number && tally.guests[h] < schools.get(h).beds;
         }
     }
 

@@ -22,6 +22,7 @@ public final class PromisesTest {
         may();
         round();
         roundRows();
+        roundBounds();
         out();
         mend();
         mendByOtherAgreement();
@@ -131,6 +132,11 @@ public final class PromisesTest {
         due("3: mark 11", x.had(0, 11, 1), false);
         due("3: mark -1", x.had(0, -1, 1), false);
         due("3: then", x.turn(0, 1, 1, 0), 0);
+        StudentSwaps y = new StudentSwaps();
+        y.had(0, 0, 2);
+        // 2 of 12 had it, so that its MIDDLE is 1/12: 1 at first had each other MARK
+        due("3: 1 at first", y.turn(1, 0, 1, 0), 0);
+        due("3: 1 at first, too", y.turn(1, 0, 2, 0), 1);
     }
 
     private static void turn() {
@@ -282,6 +288,8 @@ public final class PromisesTest {
         fault("n10x", -201);
         fault("n12345", -105);
         fault("n1234", -201);
+        fault("n10000", -105);
+        fault("b12340", -105);
         fault("n00001", -105);
         fault("n0001", 0);
         fault("b100", -201);
@@ -340,6 +348,10 @@ public final class PromisesTest {
         agree(x, 0, 1, "(!g<50&t>3|s=7)");
         agree(x, 0, 1, "(!(g<50|t>3)&!!c<9)");
         agree(x, 0, 1, "(s>5|s<2)");
+        agree(x, 0, 1, "(s<8);(s<9999);(!s>7);(!s=8);(!s=9)");
+        agree(x, 0, 1, "(g<0)");
+        due("9: subjects beyond", x.meets(6, 0, 0, 0, 7) + x.meets(6, 0, 0, 0, 0), 2);
+        due("9: nothing is below 0", x.meets(7, 0, 0, 0, 0), 0);
         due("9: all", x.meets(0, 0, 0, 0, 0), 1);
         due("9: below", x.meets(1, 49, 0, 0, 0), 1);
         due("9: not below", x.meets(1, 50, 0, 0, 0), 0);
@@ -364,7 +376,7 @@ public final class PromisesTest {
         due("9: credits -1", x.meets(0, 0, 0, -1, 0), NONE);
         due("9: subject 8", x.meets(0, 0, 0, 0, 8), NONE);
         due("9: subject -1", x.meets(0, 0, 0, 0, -1), NONE);
-        due("9: agreement 6", x.meets(6, 0, 0, 0, 0), NONE);
+        due("9: agreement 8", x.meets(8, 0, 0, 0, 0), NONE);
         due("9: agreement -1", x.meets(-1, 0, 0, 0, 0), NONE);
     }
 
@@ -394,6 +406,7 @@ public final class PromisesTest {
         due("10: quarrel, other order of schools", x.terms(1, 3, 2), 1);
         due("10: no year in common", x.terms(3, 4, 2), 0);
         due("10: one year in common", x.terms(3, 5, 2), 1);
+        due("10: one year in common, other way", x.terms(5, 3, 2), 1);
         due("10: other schools", x.terms(3, 7, 2), 0);
         due("10: something meets both", x.terms(0, 1, 2), 0);
         due("10: empty with itself", x.terms(8, 8, 2), 1);
@@ -448,6 +461,16 @@ public final class PromisesTest {
         due("12: none", x.level(0, 1, NONE), true);
         due("12: look none", x.look(0, 21), NONE);
         due("12: none counts 0", x.may(0, 1), NONE);
+        StudentSwaps y = office(4);
+        agree(y, 1, 0, "(t=0)");
+        agree(y, 1, 0, "(t=9)");
+        agree(y, 1, 3, "(t=0)");
+        agree(y, 1, 3, "(t=9)");
+        wisher(y, 1, 0, 3);
+        due("12: no test counts 0", y.may(0, 0) * 10 + y.may(0, 3), 2);
+        y.level(0, 0, 9);
+        y.level(0, 3, 9);
+        due("12: first and last tongue", y.may(0, 0) * 10 + y.may(0, 3), 13);
     }
 
     private static void wish() {
@@ -566,6 +589,51 @@ public final class PromisesTest {
         due("15: no agreement for the first", z.round(), 2);
         due("15: second of 0", z.look(0, 3), 1);
         due("15: second of 1", z.look(1, 3), 1);
+    }
+
+    /** Bounds of the last AGREEMENT and SCHOOL, each way, over years; the fourth WISH. */
+    private static void roundBounds() {
+        StudentSwaps x = office(8);
+        for (int i = 0; i < 11; i++) {
+            agree(x, 0, 1, "(g>99)");
+        }
+        agree(x, 6, 7, "n2;b1");
+        for (int i = 0; i < 2; i++) {
+            wisher(x, 7, 0, 1, 2, 6);
+        }
+        due("15: the balance", x.round(), 1);
+        due("15: the fourth wish", x.look(0, 3), 3);
+        due("15: the other one waits", x.look(1, 0), 0);
+        for (int i = 0; i < 3; i++) {
+            wisher(x, 6, 7);
+        }
+        due("15: no more than two either way", x.round(), 3);
+        due("15: back", x.look(1, 1), 6);
+        due("15: out", x.look(2, 0) * 100 + x.look(3, 0) * 10 + x.look(4, 0), 110);
+        x.year();
+        wisher(x, 7, 6);
+        wisher(x, 7, 6);
+        wisher(x, 7, 6);
+        due("15: two back, one out: one more than before", x.round(), 3);
+        due("15: kept over years", x.balance(11), -1);
+        x.year();
+        wisher(x, 7, 6);
+        due("15: over years", x.round(), 0);
+        wisher(x, 6, 7);
+        x.beds(7, 0);
+        due("15: no bed", x.round(), 0);
+        x.beds(7, 1);
+        due("15: one bed", x.round(), 2);
+        StudentSwaps y = office(5);
+        for (int h = 1; h < 5; h++) {
+            agree(y, 0, h, "n9;b9");
+            y.beds(h, h == 4 ? 1 : 0);
+        }
+        wisher(y, 0, 1, 2, 3, 4);
+        wisher(y, 0, 1, 2, 3, 4);
+        due("15: four wishes, and nothing", y.round(), 1);
+        due("15: the fourth", y.look(0, 3), 3);
+        due("15: nothing", y.look(1, 0), 0);
     }
 
     private static void out() {
@@ -871,6 +939,18 @@ public final class PromisesTest {
         due("25: student -1", x.visa(-1, 2), NONE);
         due("25: told 360", x.visa(0, 360), NONE);
         due("25: told -1", x.visa(0, -1), NONE);
+        StudentSwaps z = new StudentSwaps();
+        z.school(0, 0, 1, 0, 0, 99, 0);
+        z.school(3, 0, 1, 0, 50, 99, 0);
+        z.land(3, 0, 0);
+        agree(z, 0, 1, "n1");
+        wisher(z, 0, 1);
+        wisher(z, 1, 0);
+        z.round();
+        z.fact(0, 0, 50, 0);
+        z.fact(1, 0, 0, 0);
+        due("25: the last land", z.visa(0, 0), 2);
+        due("25: the first land", z.visa(1, 0), 0);
         StudentSwaps y = new StudentSwaps();
         y.school(2, 0, 1, 0, 0, 99, 0);
         y.school(2, 0, 1, 0, 0, 99, 0);
@@ -978,6 +1058,17 @@ public final class PromisesTest {
         due("28: school -1", x.crowded(-1, 20), NONE);
         due("28: told 360", x.crowded(1, 360), NONE);
         due("28: told -1", x.crowded(1, -1), NONE);
+        StudentSwaps y = new StudentSwaps();
+        y.school(0, 0, 9, 0, 0, 359, 0);
+        y.school(3, 0, 9, 0, 0, 359, 0);
+        agree(y, 0, 1, "n1");
+        wisher(y, 0, 1);
+        y.round();
+        y.beds(1, 0);
+        y.fact(0, 2, 359, 0);
+        due("28: the last day", y.crowded(1, 0), 359);
+        y.fact(0, 2, 0, 0);
+        due("28: the first day", y.crowded(1, 0), 0);
     }
 
     private static void year() {
@@ -1056,6 +1147,8 @@ public final class PromisesTest {
         StudentSwaps x = office(4);
         agree(x, 3, 1, "n1");
         agree(x, 2, 0, "n7;b8;p9;y1-2;(g>1);(t<9)");
+        agree(x, 2, 0, "b5");
+        due("32: n at first", x.about(2, 2), 1);
         long[] first = {3, 1, 1, 1, 0, 0, 99, 0, 0, 1};
         long[] second = {2, 0, 7, 8, 9, 1, 2, 2, 0, 0};
         for (int what = 0; what < 10; what++) {
@@ -1070,7 +1163,7 @@ public final class PromisesTest {
         due("32: in force", x.about(1, 9), 1);
         due("32: 10", x.about(0, 10), NONE);
         due("32: -1", x.about(0, -1), NONE);
-        due("32: no agreement", x.about(2, 0), NONE);
+        due("32: no agreement", x.about(3, 0), NONE);
         due("32: agreement -1", x.about(-1, 0), NONE);
     }
 
