@@ -847,7 +847,7 @@ public final class StudentSwaps {
         }
 
         int[] codes() {
-            return Arrays.copyOf(codes, codeCount);
+            return Arrays.copyOf(codes, Math.max(0, codeCount));
         }
 
         private void readClause() {
