@@ -1,9 +1,5 @@
 /** For each promise of the document: ordinary inputs, the edges that it names, and wrong inputs. */
-public final class PromisesTest {
-    private static final int NONE = StudentSwaps.NONE;
-    private static int wrong = 0;
-    private static int asked = 0;
-
+public final class PromisesTest extends Asked {
     public static void main(String[] args) {
         newObject();
         land();
@@ -43,58 +39,7 @@ public final class PromisesTest {
         about();
         count();
         refusedChangeNothing();
-        System.out.println(asked + " answers asked, " + wrong + " not as due");
-        if (wrong != 0) {
-            System.exit(1);
-        }
-    }
-
-    private static void due(String what, long got, long want) {
-        asked++;
-        if (got != want) {
-            wrong++;
-            System.out.println(what + " answered " + got + ", due is " + want);
-        }
-    }
-
-    private static void due(String what, boolean got, boolean want) {
-        due(what, got ? 1 : 0, want ? 1 : 0);
-    }
-
-    private static int word(String text, int at) {
-        int word = 0;
-        for (int i = at; i < at + 4; i++) {
-            word = word << 8 | (i < text.length() ? text.charAt(i) & 255 : 0);
-        }
-        return word;
-    }
-
-    private static void feedText(StudentSwaps x, String text) {
-        for (int i = 0; i < text.length(); i += 20) {
-            x.feed(word(text, i), word(text, i + 4), word(text, i + 8), word(text, i + 12), word(text, i + 16));
-        }
-    }
-
-    private static int agree(StudentSwaps x, int a, int b, String text) {
-        feedText(x, text);
-        return x.agreement(a, b, text.length());
-    }
-
-    /** n SCHOOLS with TERM 100 to 199, land and tongue by number, 9 beds, FEE 1000. */
-    private static StudentSwaps office(int n) {
-        StudentSwaps x = new StudentSwaps();
-        for (int h = 0; h < n; h++) {
-            x.school(h % 4, h % 4, 9, 0, 100, 199, 1000);
-        }
-        return x;
-    }
-
-    private static int wisher(StudentSwaps x, int home, int... wishes) {
-        int s = x.student(home, 0, 50, 10, 0);
-        for (int h : wishes) {
-            x.wish(s, h);
-        }
-        return s;
+        end();
     }
 
     private static void newObject() {
@@ -837,16 +782,6 @@ public final class PromisesTest {
         due("22: no school", y.study(0, 2, 0), NONE);
         due("22: school -1", y.study(0, -1, 0), NONE);
         due("22: without courses", y.study(0, 0, 2), 3);
-    }
-
-    /** One STUDENT of SCHOOL 0 PLACED at SCHOOL 1 (TERM 100 to 199), one WAITING. */
-    private static StudentSwaps placedOne() {
-        StudentSwaps x = office(3);
-        agree(x, 0, 1, "n9;b9");
-        wisher(x, 0, 1);
-        x.round();
-        wisher(x, 0, 1);
-        return x;
     }
 
     private static void fact() {
