@@ -4,6 +4,7 @@ public final class StudentsTest extends Asked {
         students();
         sixteen();
         newStudent();
+        needs();
         states();
         levels();
         noTest();
@@ -55,7 +56,7 @@ public final class StudentsTest extends Asked {
     }
 
     private static void sixteen() {
-        sentence("16 are there");
+        sentence("STUDENTS 0 to 15: a HOME (SCHOOL), a SUBJECT, a GRADE, CREDITS");
         StudentSwaps x = office(2);
         for (int s = 0; s < 16; s++) {
             due("number", x.student(s % 2, s % 8, s, s, s), s);
@@ -83,6 +84,20 @@ public final class StudentsTest extends Asked {
             due("no test " + i, x.look(0, 20 + i), NONE);
         }
         due("waiting", x.count(4), 1);
+    }
+
+    private static void needs() {
+        sentence("NEEDS (TOPICS 0 to 11, as bits)");
+        StudentSwaps x = office(2);
+        for (int topic = 0; topic < 12; topic++) {
+            due("topic " + topic, x.student(0, 0, 0, 0, 1 << topic), topic);
+            due("it is needed", x.look(topic, 8), 1 << topic);
+            due("and lacking", x.study(topic, 1, 2), 1 << topic);
+        }
+        due("there is no topic 12", x.student(0, 0, 0, 0, 1 << 12), NONE);
+        due("nor the highest bit", x.student(0, 0, 0, 0, Integer.MIN_VALUE), NONE);
+        due("none", x.look(x.student(0, 0, 0, 0, 0), 8), 0);
+        due("all", x.look(x.student(0, 0, 0, 0, 4095), 8), 4095);
     }
 
     private static void states() {
