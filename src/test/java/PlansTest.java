@@ -5,6 +5,7 @@ public final class PlansTest extends Asked {
         moreFirstWishes();
         ofLikeOnesMoreSecond();
         thirdAndFourth();
+        oneOrAPair();
         firstSeven();
         sevenWithoutWishes();
         placedAsTheyAre();
@@ -146,6 +147,43 @@ public final class PlansTest extends Asked {
         }
         due("a third and two fourths", z.round(), 3);
         due("row", row(z, 3), 1233);
+    }
+
+    /**
+     * SCHOOL 1 has one bed: student 0 can have it as this WISH, or students 1 and 2 swap (b0: neither alone) as that one.
+     */
+    private static StudentSwaps oneBed(int wishOfOne, int wishOfPair) {
+        StudentSwaps x = office(8);
+        agree(x, 0, 1, "n9;b0");
+        agree(x, 2, 1, "n9;b9");
+        x.beds(1, 1);
+        int[] homes = {2, 0, 1};
+        int[] wishes = {1, 1, 0};
+        for (int s = 0; s < 3; s++) {
+            wisher(x, homes[s]);
+            for (int w = 0; w < (s == 0 ? wishOfOne : wishOfPair); w++) {
+                x.wish(s, 5 + w);
+            }
+            x.wish(s, wishes[s]);
+        }
+        return x;
+    }
+
+    private static void oneOrAPair() {
+        sentence("if it serves more first WISHES; of like ones more second ones, third, fourth ones");
+        for (int one = 0; one < 4; one++) {
+            for (int pair = 0; pair < 4; pair++) {
+                StudentSwaps x = oneBed(one, pair);
+                boolean isPair = pair <= one;
+                due("wish " + one + " of one, " + pair + " of two", x.round(), isPair ? 2 : 1);
+                due("their rows", row(x, 3), isPair ? 1900 + 11 * pair : 1099 + 100 * one);
+            }
+        }
+        StudentSwaps y = oneBed(0, 1);
+        agree(y, 2, 3, "n9;b9");
+        y.wish(0, 3);
+        due("one first is fairer than three seconds", y.round(), 1);
+        due("its row", row(y, 3), 1099);
     }
 
     private static void firstSeven() {
@@ -314,6 +352,15 @@ public final class PlansTest extends Asked {
         due("but one does", x.round(), 1);
         due("the least row", x.look(2, 3) * 10 + x.look(3, 0), 10);
         due("kept", x.kept(), 1);
+        StudentSwaps y = office(3);
+        agree(y, 1, 0, "n9;b0");
+        wisher(y, 0, 1);
+        wisher(y, 1, 0);
+        y.round();
+        y.out(1);
+        wisher(y, 1, 2, 0);
+        due("the only one who waits", y.round(), 1);
+        due("balances it", y.balance(0) * 10 + y.kept(), 1);
     }
 
     private static void makesThosePlaced() {

@@ -8,6 +8,7 @@ public final class TextsTest extends Asked {
         bytesOfFeed();
         tapeOfEighty();
         firstBytes();
+        bytesBehind();
         emptyThen();
         noneAndTheTapeStays();
         twoSchools();
@@ -117,6 +118,31 @@ public final class TextsTest extends Asked {
         due("one byte", byTape(20, 1), -101);
         due("two bytes", byTape(20, 2), 0);
         due("sixty bytes", byTape(60, 60), 0);
+    }
+
+    private static int byFirst(StudentSwaps x, String text, int n) {
+        feedText(x, text);
+        return x.agreement(0, 1, n);
+    }
+
+    private static void bytesBehind() {
+        sentence("by the first n bytes of the tape");
+        due("a fifth digit behind", byFirst(office(2), "p12345", 5), 0);
+        due("a fifth digit within", byFirst(office(2), "p12345", 6), -105);
+        due("a wrong byte behind", byFirst(office(2), "n1x", 2), 0);
+        due("a ) behind", byFirst(office(2), "(g<5)", 4), -104);
+        due("a number behind", byFirst(office(2), "n1;n2", 4), -104);
+        due("a clause behind a ;", byFirst(office(2), "n1;n2", 3), -103);
+        due("a sign behind", byFirst(office(2), "(g<5)", 2), -102);
+        due("a seventh ( behind", byFirst(office(2), "(((((((", 6), -106);
+        StudentSwaps x = office(2);
+        due("a digit behind", byFirst(x, "b123", 3), 0);
+        due("it does not count", x.about(0, 3), 12);
+        due("a later clause behind", byFirst(x, "n3;n4", 2), 1);
+        due("nor does that", x.about(1, 2), 3);
+        String sixty = often("n1;", 18) + "b99;n2";
+        due("the sixty-first is behind", byFirst(x, sixty + "3;", 60), 2);
+        due("it is 2", x.about(2, 2), 2);
     }
 
     /** An AGREEMENT by n of so many bytes, n1;n1;.. up to n1n. */
