@@ -6,6 +6,7 @@ public final class PlansTest extends Asked {
         ofLikeOnesMoreSecond();
         thirdAndFourth();
         oneOrAPair();
+        oneOrFour();
         firstSeven();
         sevenWithoutWishes();
         placedAsTheyAre();
@@ -184,6 +185,37 @@ public final class PlansTest extends Asked {
         y.wish(0, 3);
         due("one first is fairer than three seconds", y.round(), 1);
         due("its row", row(y, 3), 1099);
+    }
+
+    private static void wishBehind(StudentSwaps x, int s, int others, int h) {
+        for (int w = 0; w < others; w++) {
+            x.wish(s, 5 + w);
+        }
+        x.wish(s, h);
+    }
+
+    /** The last of four can have the only bed of SCHOOL 1; or go elsewhere, so that all four go (b0: in pairs). */
+    private static void oneOrFour() {
+        sentence("It is FAIRER than another one if it serves more first WISHES; of like ones more second ones, third,"
+                + " fourth ones.");
+        for (int w = 0; w < 3; w++) {
+            StudentSwaps x = office(8);
+            agree(x, 0, 1, "n9;b0");
+            agree(x, 2, 1, "n9;b9");
+            agree(x, 2, 3, "n9;b0");
+            x.beds(1, 1);
+            wishBehind(x, wisher(x, 0), w + 1, 1);
+            wishBehind(x, wisher(x, 1), w + 1, 0);
+            wishBehind(x, wisher(x, 3), w + 1, 2);
+            wishBehind(x, wisher(x, 2), w, 1);
+            x.wish(3, 3);
+            due("one wish " + w + " is fairer than four of the next", x.round(), 1);
+            due("its row", row(x, 4), 19990 + w);
+            x.out(3);
+            wishBehind(x, wisher(x, 2), w, 4);
+            x.wish(4, 3);
+            due("without it, four of the next", x.round(), 4);
+        }
     }
 
     private static void firstSeven() {
