@@ -1498,15 +1498,23 @@ public final class StudentSwaps {
                 return;
             }
             for (int o = 0; o < options[i] && o < OPTIONS; o++) {
-                int x = agreements[i][o];
-                int h = hosts[i][o];
-                int way = ways[i][o];
-                if (x == NONE || bounds.hasRoom(x, h, way)) {
-                    row[i] = o;
-                    bounds.addGuests(x, h, way, 1);
-                    search(i + 1, worth + worths[i][o]);
-                    bounds.addGuests(x, h, way, -1);
-                }
+                choose(i, o, worth);
+            }
+        }
+
+        /** o: which option the next of the row gets. */
+        private void choose(int i, int o, int worth) {
+            if (i < 0 || i >= SEVEN || o < 0 || o >= OPTIONS) {
+                return;
+            }
+            int x = agreements[i][o];
+            int h = hosts[i][o];
+            int way = ways[i][o];
+            if (x == NONE || bounds.hasRoom(x, h, way)) {
+                row[i] = o;
+                bounds.addGuests(x, h, way, 1);
+                search(i + 1, worth + worths[i][o]);
+                bounds.addGuests(x, h, way, -1);
             }
         }
     }

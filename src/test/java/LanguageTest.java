@@ -5,6 +5,7 @@ import java.lang.reflect.Modifier;
 import java.nio.file.Files;
 import java.nio.file.Path;
 import java.util.ArrayList;
+import java.util.Arrays;
 import java.util.List;
 import java.util.Set;
 import java.util.TreeSet;
@@ -123,13 +124,13 @@ public final class LanguageTest {
         while (forbidden.find()) {
             check(false, "forbidden: " + forbidden.group());
         }
-        seeMethodLengths(code);
+        seeMethods(code);
     }
 
     /** A method begins with a line that opens a bracket at a class's depth, and ends where that closes. */
-    private static void seeMethodLengths(String code) {
+    private static void seeMethods(String code) {
         String[] lines = code.split("\n");
-        Pattern head = Pattern.compile("^( {4}| {8})(public |private |static )*[\\w<>\\[\\]]+( \\w+)?\\(.*");
+        Pattern head = Pattern.compile("^( {4}| {8})(?:public |private |static )*[\\w<>\\[\\]]+(?: (\\w+))?\\(.*");
         for (int i = 0; i < lines.length; i++) {
             Matcher m = head.matcher(lines[i]);
             if (m.matches()) {
@@ -138,7 +139,19 @@ public final class LanguageTest {
                     last++;
                 }
                 check(last - i < 60, "a long method: " + lines[i]);
+                String body = String.join("\n", Arrays.copyOfRange(lines, i + 1, last));
+                check(m.group(2) == null || mayCallItself(lines[i]) || !calls(body, m.group(2)),
+                        "calls itself and is not private and static: " + lines[i]);
             }
         }
+    }
+
+    /** Rule 8: a private static method may call itself; other private methods may call one another. */
+    private static boolean mayCallItself(String head) {
+        return head.contains("private static ");
+    }
+
+    private static boolean calls(String body, String name) {
+        return Pattern.compile("(?<![\\w.])(this\\.)?" + name + "\\(").matcher(body).find();
     }
 }
